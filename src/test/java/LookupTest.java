@@ -50,6 +50,14 @@ public final class LookupTest {
         x.join(32, 0);
         checks.same("a finger that lives again leads on", Checks.route(x, 0, 0), "0 32 48 > 0");
         checks.same("a successor that lives again is found", Checks.route(x, 24, 30), "24 > 32");
+
+        ChordOverlay y = Checks.ring(0, 1, 4, 5, 8);
+        y.fail(1);
+        y.fail(4);
+        y.stabilize(0);
+        y.join(1, 0);
+        checks.same("fingers of 0", Checks.fingers(y, 0), "1 4 4 8 0 0");
+        checks.same("the finger 0 leads on too, nearer than the successor 5", Checks.route(y, 0, 6), "0 1 5 > 8");
     }
 
     private static void waysWithoutFingers() {

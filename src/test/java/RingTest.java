@@ -57,6 +57,11 @@ public final class RingTest {
         checks.same("40 alone knows only the dead", x.wrongPointers(), 7);
         x.fail(40);
         checks.same("of nobody left", x.wrongPointers(), 0);
+        x.create(0);
+        checks.same("of 0 alone", x.wrongPointers(), 7);
+        x.fail(0);
+        x.create(63);
+        checks.same("of 63 alone", x.wrongPointers(), 7);
     }
 
     private static void wrongPointersByKind() {
@@ -86,6 +91,9 @@ public final class RingTest {
         ChordOverlay x = new ChordOverlay();
         x.create(10);
         checks.same("roundsToRight(1) of one", x.roundsToRight(1), 1);
+        ChordOverlay zero = new ChordOverlay();
+        zero.create(0);
+        checks.same("roundsToRight(1) of 0 alone", zero.roundsToRight(1), 1);
         x.join(40, 10);
         checks.same("roundsToRight(1): two are needed", x.roundsToRight(1), -1);
         checks.same("roundsToRight(2)", x.roundsToRight(2), 2);

@@ -11,6 +11,7 @@ public final class StabilizationTest {
         stabilizeAlone();
         stabilizeRefuses();
         fix();
+        fixGoesByFingersJustFixed();
         fixRefuses();
         replicateOwnKeys();
         replicateOthersKeys();
@@ -20,6 +21,8 @@ public final class StabilizationTest {
         goRounds();
         goRoundsByRisingIdentifiers();
         goRoundsReplicates();
+        goRoundsChecksFirst();
+        goRoundsNodeByNode();
         goRoundsRefuses();
         checks.tell();
     }
@@ -158,6 +161,25 @@ public final class StabilizationTest {
         checks.same("fingers of 60, around the circle", Checks.fingers(y, 60), "0 0 0 8 24 32");
     }
 
+    /**
+     * 0 knew 8 as its finger 3; but 4, its new successor, knows no living node, so a lookup that goes
+     * by 4 finds 4. The finger 3 becomes 4, and from then on every lookup of 0 goes by 4.
+     */
+    private static void fixGoesByFingersJustFixed() {
+        ChordOverlay x = Checks.ring(0, 5, 6, 7, 8);
+        checks.same("fingers of 0 before", Checks.fingers(x, 0), "5 5 5 8 0 0");
+        x.join(4, 0);
+        x.stabilize(4);
+        x.stabilize(0);
+        x.fail(5);
+        x.fail(6);
+        x.fail(7);
+        checks.same("way from 0 to 16 before", Checks.route(x, 0, 16), "0 8 > 0");
+        checks.same("fix(0)", x.fix(0), 6);
+        checks.same("fingers of 0", Checks.fingers(x, 0), "4 4 4 4 4 4");
+        checks.same("way from 0 to 16", Checks.route(x, 0, 16), "0 4 > 4");
+    }
+
     private static void fixRefuses() {
         ChordOverlay x = Checks.ring(10, 40);
         checks.outOfRange("fix(-1)", () -> x.fix(-1));
@@ -179,6 +201,25 @@ public final class StabilizationTest {
         checks.same("kept(8, 20): two copies are enough", x.kept(8, 20), -1);
         checks.same("replicate(24) again", x.replicate(24), 0);
         checks.same("replicate(16), which keeps nothing", x.replicate(16), 0);
+        x.join(28, 24);
+        x.stabilize(28);
+        x.stabilize(24);
+        checks.same("replicate(24), its new first successor gets three", x.replicate(24), 3);
+        checks.same("kept(28, 24)", x.kept(28, 24), 6);
+
+        ChordOverlay edges = new ChordOverlay();
+        edges.create(10);
+        edges.put(10, 0, 1);
+        edges.put(10, 63, 2);
+        edges.join(40, 10);
+        edges.stabilize(40);
+        edges.stabilize(10);
+        edges.fail(40);
+        edges.check(10);
+        edges.join(40, 10);
+        checks.same("replicate(10), the first and the last key", edges.replicate(10), 2);
+        checks.same("kept(40, 0)", edges.kept(40, 0), 1);
+        checks.same("kept(40, 63)", edges.kept(40, 63), 2);
     }
 
     private static void replicateOthersKeys() {
@@ -192,6 +233,7 @@ public final class StabilizationTest {
         checks.same("replicate(32), 24 gets it again", x.replicate(32), 1);
         checks.same("kept(24, 20)", x.kept(24, 20), 5);
         checks.same("its successors get none of another's key", x.kept(0, 20), -1);
+        checks.same("it keeps the value itself all the same", x.kept(32, 20), 5);
         checks.same("replicate(32) again", x.replicate(32), 0);
 
         x.put(24, 20, 6);
@@ -217,6 +259,13 @@ public final class StabilizationTest {
         x.check(32);
         checks.same("replicate(32) without predecessor", x.replicate(32), 1);
         checks.same("kept(0, 20), its second successor", x.kept(0, 20), 5);
+
+        ChordOverlay y = Checks.ring(0, 8, 16, 24, 32, 48);
+        y.put(0, 40, 5);
+        y.fail(48);
+        y.check(0);
+        checks.same("replicate(0) without predecessor, of a key that was never its own", y.replicate(0), 1);
+        checks.same("kept(16, 40)", y.kept(16, 40), 5);
 
         ChordOverlay alone = new ChordOverlay();
         alone.create(5);
@@ -289,6 +338,39 @@ public final class StabilizationTest {
         checks.same("24 came back, and 16 does not know it yet", x.kept(24, 20), -1);
         x.goRounds(1);
         checks.same("the node that came back has its key again", x.kept(24, 20), 5);
+    }
+
+    /** 0 goes first, and gives its dead predecessor up before it replicates. */
+    private static void goRoundsChecksFirst() {
+        ChordOverlay x = Checks.ring(0, 8, 16, 24, 32, 48);
+        x.put(0, 40, 5);
+        x.fail(48);
+        checks.same("goRounds(1)", x.goRounds(1), 0);
+        checks.same("kept(16, 40)", x.kept(16, 40), 5);
+        checks.same("kept(24, 40)", x.kept(24, 40), -1);
+    }
+
+    /** A node does all of its steps before the next one begins. */
+    private static void goRoundsNodeByNode() {
+        ChordOverlay x = new ChordOverlay();
+        x.create(0);
+        x.join(36, 0);
+        x.fail(0);
+        x.join(12, 36);
+        x.goRounds(1);
+        checks.same("12 fixed its fingers when 36 did not know it yet", x.finger(12, 5), 36);
+        checks.same("36 knows 12 now", x.successor(36, 0), 12);
+
+        ChordOverlay y = new ChordOverlay();
+        y.create(0);
+        y.join(12, 0);
+        y.goRounds(1);
+        y.join(48, 0);
+        y.put(12, 46, 7);
+        checks.same("12 keeps none before", y.kept(12, 46), -1);
+        y.goRounds(1);
+        checks.same("0 replicated when it did not know 48 yet", y.kept(12, 46), 7);
+        checks.same("0 knows 48 now", y.predecessor(0), 48);
     }
 
     private static void goRoundsRefuses() {

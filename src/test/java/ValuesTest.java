@@ -131,6 +131,13 @@ public final class ValuesTest {
         checks.same("get(0, 20): 20 is found, and keeps none yet", y.get(0, 20), -1);
         checks.same("get(20, 20): all of it around", y.get(20, 20), -1);
         checks.same("kept(24, 20) all the same", y.kept(24, 20), 5);
+        checks.same("get(24, 20): what it keeps itself does not count", y.get(24, 20), -1);
+
+        ChordOverlay unknown = new ChordOverlay();
+        unknown.create(10);
+        unknown.join(40, 10);
+        unknown.put(10, 20, 1);
+        checks.same("get(40, 20): found at 10, though 40 owns it", unknown.get(40, 20), 1);
     }
 
     private static void getRefuses() {
