@@ -143,7 +143,7 @@ public final class ChordOverlay {
     public int goRounds(int rounds) throws IllegalArgumentException {
         requireRange(rounds, 1, MOST_ROUNDS);
         for (int round = 0; round < rounds; round++) {
-            letRoundGoBy();
+            letRoundGoBy(true);
         }
         return countWrongPointers();
     }
@@ -186,7 +186,8 @@ public final class ChordOverlay {
         requireAlive(from);
         int found = find(from, key);
         lastStamp++;
-        acceptCopy(found, key, value, lastStamp);
+        values.set(found, key, value);
+        stamps.set(found, key, lastStamp);
         copyToHeirs(found, key);
         return found;
     }
@@ -230,9 +231,13 @@ public final class ChordOverlay {
     public int roundsToRight(int most) throws IllegalArgumentException {
         requireRange(most, 1, MOST_ROUNDS_AHEAD);
         layPointersAside();
-        int rounds = mendUntilRight(most);
+        int rounds = 0;
+        while (rounds <= most && countWrongPointers() > 0) {
+            letRoundGoBy(false);
+            rounds++;
+        }
         takePointersBack();
-        return rounds;
+        return rounds <= most ? rounds : NONE;
     }
 
     // ---- what the calls ask of their arguments
@@ -338,19 +343,18 @@ public final class ChordOverlay {
 
     // ---- the steps of stabilization
 
-    private void letRoundGoBy() {
+    /** Without replicating it moves pointers only, and those as it would with: none depends on a value. */
+    private void letRoundGoBy(boolean replicating) {
         for (int node = 0; node < IDENTIFIERS; node++) {
             if (isAlive(node)) {
-                mendPointers(node);
-                spreadValues(node);
+                dropDeadPredecessor(node);
+                mendSuccessors(node);
+                renewFingers(node);
+                if (replicating) {
+                    spreadValues(node);
+                }
             }
         }
-    }
-
-    private void mendPointers(int node) {
-        dropDeadPredecessor(node);
-        mendSuccessors(node);
-        renewFingers(node);
     }
 
     private void dropDeadPredecessor(int node) {
@@ -390,13 +394,13 @@ public final class ChordOverlay {
     }
 
     private int spreadValues(int node) {
-        int accepted = 0;
+        int keptCopies = 0;
         for (int key = 0; key < IDENTIFIERS; key++) {
             if (values.at(node, key) != NONE) {
-                accepted += spreadValue(node, key);
+                keptCopies += spreadValue(node, key);
             }
         }
-        return accepted;
+        return keptCopies;
     }
 
     private int spreadValue(int node, int key) {
@@ -436,36 +440,31 @@ public final class ChordOverlay {
 
     // ---- values
 
-    /** Gives a copy of what a node keeps for a key, if it keeps any; tells how many were accepted. */
+    /**
+     * Tells how many copies were kept, 0 or 1. The stamp where no value is kept is NONE, lower than
+     * that of any put: such a node gives nothing, and keeps whatever it gets.
+     */
     private int giveCopy(int from, int to, int key) {
-        int value = values.at(from, key);
-        if (value == NONE) {
+        int stamp = stamps.at(from, key);
+        if (stamp <= stamps.at(to, key)) {
             return 0;
         }
-        return acceptCopy(to, key, value, stamps.at(from, key));
-    }
-
-    /** No stamp counts as NONE, lower than that of any put. */
-    private int acceptCopy(int node, int key, int value, int stamp) {
-        if (!isAlive(node) || stamps.at(node, key) >= stamp) {
-            return 0;
-        }
-        values.set(node, key, value);
-        stamps.set(node, key, stamp);
+        values.set(to, key, values.at(from, key));
+        stamps.set(to, key, stamp);
         return 1;
     }
 
     private int copyToHeirs(int node, int key) {
         int first = firstHeir(node, NONE);
         int second = firstHeir(node, first);
-        int accepted = 0;
+        int keptCopies = 0;
         if (first != NONE) {
-            accepted += giveCopy(node, first, key);
+            keptCopies += giveCopy(node, first, key);
         }
         if (second != NONE) {
-            accepted += giveCopy(node, second, key);
+            keptCopies += giveCopy(node, second, key);
         }
-        return accepted;
+        return keptCopies;
     }
 
     // ---- the ring as it is
@@ -530,25 +529,6 @@ public final class ChordOverlay {
         fingers.copyFrom(asideFingers);
     }
 
-    private int mendUntilRight(int most) {
-        for (int rounds = 0; rounds <= most; rounds++) {
-            if (countWrongPointers() == 0) {
-                return rounds;
-            }
-            mendAllPointers();
-        }
-        return NONE;
-    }
-
-    /** A round without its copies of values: no pointer depends on these, and none need undoing. */
-    private void mendAllPointers() {
-        for (int node = 0; node < IDENTIFIERS; node++) {
-            if (isAlive(node)) {
-                mendPointers(node);
-            }
-        }
-    }
-
     /** The circle of identifiers. */
     private static final class Circle {
         // IDENTIFIERS is a power of two, so this mask takes any number modulo it, those below 0 too.
@@ -565,19 +545,17 @@ public final class ChordOverlay {
             return onward(node, 1 << number);
         }
 
-        /** Whether x lies in (a, b]. */
+        /**
+         * Whether x lies in (a, b]. The steps up from a + 1 count, so that a itself is the last one
+         * to be met, and (a, a] the whole circle.
+         */
         static boolean isUpTo(int x, int a, int b) {
-            return stepsUp(a, x) <= stepsUp(a, b);
+            return ((x - a - 1) & MASK) <= ((b - a - 1) & MASK);
         }
 
         /** Whether x lies in (a, b). */
         static boolean isBetween(int x, int a, int b) {
-            return stepsUp(a, x) < stepsUp(a, b);
-        }
-
-        /** 1 to 64: from an identifier to itself it is the whole circle, as (a, a] is. */
-        private static int stepsUp(int a, int b) {
-            return ((b - a - 1) & MASK) + 1;
+            return ((x - a - 1) & MASK) < ((b - a - 1) & MASK);
         }
     }
 
@@ -596,13 +574,19 @@ public final class ChordOverlay {
         }
 
         int at(int node, int column) {
-            int cell = cellOf(node, column);
-            return cell >= 0 && cell < cells.length ? cells[cell] : NONE;
+            if (node < 0 || node >= IDENTIFIERS || column < 0 || column >= width) {
+                return NONE;
+            }
+            int cell = node * width + column;
+            return cell < cells.length ? cells[cell] : NONE;
         }
 
         void set(int node, int column, int number) {
-            int cell = cellOf(node, column);
-            if (cell >= 0 && cell < cells.length) {
+            if (node < 0 || node >= IDENTIFIERS || column < 0 || column >= width) {
+                return;
+            }
+            int cell = node * width + column;
+            if (cell < cells.length) {
                 cells[cell] = number;
             }
         }
@@ -617,13 +601,6 @@ public final class ChordOverlay {
             if (other != null) {
                 System.arraycopy(other.cells, 0, cells, 0, Math.min(other.cells.length, cells.length));
             }
-        }
-
-        private int cellOf(int node, int column) {
-            if (node < 0 || node >= IDENTIFIERS || column < 0 || column >= width) {
-                return NONE;
-            }
-            return node * width + column;
         }
     }
 }

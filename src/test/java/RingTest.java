@@ -94,6 +94,9 @@ public final class RingTest {
         ChordOverlay zero = new ChordOverlay();
         zero.create(0);
         checks.same("roundsToRight(1) of 0 alone", zero.roundsToRight(1), 1);
+        zero.fix(0);
+        checks.same("one pointer of 0 alone is wrong", zero.wrongPointers(), 1);
+        checks.same("roundsToRight(1) with one wrong", zero.roundsToRight(1), 1);
         x.join(40, 10);
         checks.same("roundsToRight(1): two are needed", x.roundsToRight(1), -1);
         checks.same("roundsToRight(2)", x.roundsToRight(2), 2);
