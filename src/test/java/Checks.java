@@ -153,6 +153,19 @@ final class Checks {
         return overlay;
     }
 
+    /** 10, 20 and 30 live, and 10 knows 20, 20 and 30: 20 counts once, and 30 is its second successor. */
+    static ChordOverlay oneTwice() {
+        ChordOverlay overlay = ring(20, 30, 40);
+        overlay.fail(30);
+        overlay.fail(40);
+        overlay.stabilize(20);
+        overlay.join(10, 20);
+        overlay.join(30, 20);
+        overlay.stabilize(10);
+        overlay.stabilize(20);
+        return overlay;
+    }
+
     static String successors(ChordOverlay overlay, int node) {
         return overlay.successor(node, 0) + " " + overlay.successor(node, 1) + " " + overlay.successor(node, 2);
     }

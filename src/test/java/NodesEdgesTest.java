@@ -402,9 +402,12 @@ public final class NodesEdgesTest {
     private static void leaveWithItselfAsPredecessor() {
         ChordOverlay x = Checks.ownPredecessor();
         checks.same("known of 0", Checks.known(x, 0), "40 0 0 | 0 | -1 -1 -1 -1 -1 -1");
-        checks.same("known of 40", Checks.known(x, 40), "0 0 40 | 0 | -1 -1 -1 -1 -1 -1");
-        checks.same("leave(0)", x.leave(0), 1);
-        checks.same("known of 40 then", Checks.known(x, 40), "0 0 40 | 0 | -1 -1 -1 -1 -1 -1");
+        x.join(20, 40);
+        x.stabilize(20);
+        checks.same("known of 40", Checks.known(x, 40), "0 0 40 | 20 | -1 -1 -1 -1 -1 -1");
+        checks.same("leave(0)", x.leave(0), 2);
+        checks.same("known of 40, after 0 gave itself", Checks.known(x, 40), "0 0 40 | 0 | -1 -1 -1 -1 -1 -1");
+        checks.same("known of 20", Checks.known(x, 20), "40 0 0 | -1 | -1 -1 -1 -1 -1 -1");
     }
 
     /** s is the predecessor as well: it takes its own first two successors on, as they were. */

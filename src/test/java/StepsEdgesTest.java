@@ -47,6 +47,7 @@ public final class StepsEdgesTest {
 
     private static void fix() {
         checks.edge("for i from 0 to 5, n + 2 to the power of i, modulo 64", StepsEdgesTest::fingersPastTheEnd);
+        checks.edge("for i from 0 to 5, each by those before it", StepsEdgesTest::fingersInOrder);
         checks.edge("what a lookup from n finds", StepsEdgesTest::fingersByWhatIsKnown);
         checks.edge("Returns how many fingers are others than before: 0 to 6", StepsEdgesTest::fixAnswers);
     }
@@ -70,6 +71,7 @@ public final class StepsEdgesTest {
         checks.edge("In a round each node that lives", StepsEdgesTest::theDeadDoNothing);
         checks.edge("In a round each node that lives: none, or all 64", StepsEdgesTest::noneAndAll);
         checks.edge("by rising identifiers", StepsEdgesTest::from0To63);
+        checks.edge("by what nodes know at that moment", StepsEdgesTest::nodeByNode);
         checks.edge("IllegalStateException if it does not live", StepsEdgesTest::stepsOfTheDead);
     }
 
@@ -342,6 +344,24 @@ public final class StepsEdgesTest {
         checks.same("fingers of 0 among 64", Checks.fingers(full, 0), "1 2 4 8 16 32");
     }
 
+    /**
+     * 4, the successor of 0, knows no living node, so what goes by 4 finds 4. A lookup from 0 for 16 or 32
+     * goes by the finger 8, and finds 0, until 4 has taken that finger's place.
+     */
+    private static void fingersInOrder() {
+        ChordOverlay x = Checks.ring(0, 5, 6, 7, 8);
+        x.join(4, 0);
+        x.stabilize(4);
+        x.stabilize(0);
+        for (int node : new int[] {5, 6, 7}) {
+            x.fail(node);
+        }
+        checks.same("fingers of 0 before", Checks.fingers(x, 0), "5 5 5 8 0 0");
+        checks.same("way from 0 to 32 before", Checks.route(x, 0, 32), "0 8 > 0");
+        checks.same("fix(0)", x.fix(0), 6);
+        checks.same("fingers of 0", Checks.fingers(x, 0), "4 4 4 4 4 4");
+    }
+
     /** 0 does not know 63 yet; and no finger of 63 is 63, though it owns what lies before it. */
     private static void fingersByWhatIsKnown() {
         ChordOverlay x = Checks.joined(0, 63);
@@ -493,7 +513,7 @@ public final class StepsEdgesTest {
         checks.same("kept(32, 8)", three.kept(32, 8), -1);
     }
 
-    /** Of the successors 0, 40, 0 of 0 only 40 is another node. */
+    /** Of the successors 0, 40, 0 of 0 only 40 is another node; of 40, 0, 20 the first and the third. */
     private static void notItself() {
         ChordOverlay x = Checks.ring(0, 40);
         x.fail(40);
@@ -503,26 +523,28 @@ public final class StepsEdgesTest {
         x.join(40, 0);
         checks.same("replicate(0)", x.replicate(0), 1);
         checks.same("kept(40, 20)", x.kept(40, 20), 5);
+        ChordOverlay between = Checks.ring(0, 20, 40);
+        between.fail(20);
+        between.stabilize(0);
+        between.put(0, 60, 5);
+        between.join(20, 0);
+        checks.same("successors of 0, between", Checks.successors(between, 0), "40 0 20");
+        checks.same("replicate(0), between", between.replicate(0), 1);
+        checks.same("kept(20, 60)", between.kept(20, 60), 5);
         ChordOverlay alone = Checks.alone(0);
         alone.put(0, 20, 5);
         checks.same("replicate(0) alone", alone.replicate(0), 0);
     }
 
-    /** 10 knows 20, 20 and 30: 20 counts once, and 30 is the second. */
     private static void theSameOnce() {
-        ChordOverlay x = Checks.ring(20, 30, 40);
-        x.fail(30);
-        x.fail(40);
-        x.stabilize(20);
-        x.join(10, 20);
-        x.stabilize(10);
-        x.stabilize(20);
+        ChordOverlay x = Checks.oneTwice();
         checks.same("put(10, 8, 7)", x.put(10, 8, 7), 10);
         x.fail(20);
-        x.join(20, 10);
-        x.join(30, 20);
-        checks.same("successors of 10", Checks.successors(x, 10), "20 20 30");
+        x.fail(30);
         x.check(10);
+        x.join(20, 10);
+        x.join(30, 10);
+        checks.same("known of 10", Checks.known(x, 10), "20 20 30 | -1 | -1 -1 -1 -1 -1 -1");
         checks.same("replicate(10)", x.replicate(10), 2);
         checks.same("kept(20, 8)", x.kept(20, 8), 7);
         checks.same("kept(30, 8)", x.kept(30, 8), 7);
@@ -618,6 +640,25 @@ public final class StepsEdgesTest {
         checks.same("goRounds(1), 63 tells 0", last.goRounds(1), 13);
         checks.same("known of 0", Checks.known(last, 0), "0 0 0 | 63 | 0 0 0 0 0 0");
         checks.same("known of 63", Checks.known(last, 63), "0 0 0 | -1 | 0 0 0 0 0 0");
+    }
+
+    /** 12 is through with its four steps before 36 hears of it; 36 goes by what 12 told it. */
+    private static void nodeByNode() {
+        ChordOverlay x = Checks.joined(36, 12);
+        x.put(36, 12, 5);
+        checks.same("goRounds(1)", x.goRounds(1), 1);
+        checks.same("fingers of 12, the last one by 36, which knew but itself", Checks.fingers(x, 12), "36 36 36 36 36 36");
+        checks.same("fingers of 36", Checks.fingers(x, 36), "12 12 12 12 12 12");
+        checks.same("kept(12, 12), from 36 in the same round", x.kept(12, 12), 5);
+        checks.same("goRounds(1) again", x.goRounds(1), 0);
+        ChordOverlay y = Checks.joined(12, 36);
+        y.put(12, 36, 5);
+        y.goRounds(1);
+        checks.same("fingers of 12, fixed before it knew 36", Checks.fingers(y, 12), "12 12 12 12 12 12");
+        checks.same("kept(36, 36), before 12 knew it", y.kept(36, 36), -1);
+        y.goRounds(1);
+        checks.same("fingers of 12 a round later", Checks.fingers(y, 12), "36 36 36 36 36 12");
+        checks.same("kept(36, 36) a round later", y.kept(36, 36), 5);
     }
 
     private static void stepsOfTheDead() {

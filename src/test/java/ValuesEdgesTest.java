@@ -24,6 +24,7 @@ public final class ValuesEdgesTest {
         checks.edge("Returns the node that was found.", ValuesEdgesTest::putAnswers);
         checks.edge("Each put has a stamp, greater than that of any put before", ValuesEdgesTest::laterPuts);
         checks.edge("greater than that of any put before: of the same value too", ValuesEdgesTest::sameValueAgain);
+        checks.edge("greater than that of any put before: elsewhere too", ValuesEdgesTest::sameValueAfterAnother);
         checks.edge("kept by a node that has no value for the key", ValuesEdgesTest::noValueYet);
         checks.edge("or one with a lower stamp", ValuesEdgesTest::lowerStamp);
         checks.edge("or one with a lower stamp: not with the same", ValuesEdgesTest::sameStamp);
@@ -121,6 +122,7 @@ public final class ValuesEdgesTest {
         told(x, 8, -1, 4, -1, 4, -1, -1);
     }
 
+    /** 0 knows itself as its first successor, or between two others. */
     private static void notTheNodeItself() {
         ChordOverlay x = Checks.ring(0, 40);
         x.fail(40);
@@ -129,21 +131,21 @@ public final class ValuesEdgesTest {
         checks.same("successors of 0", Checks.successors(x, 0), "0 40 0");
         checks.same("put(0, 20, 5)", x.put(0, 20, 5), 0);
         checks.same("kept(40, 20)", x.kept(40, 20), 5);
+        ChordOverlay between = Checks.ring(0, 20, 40);
+        between.fail(20);
+        between.stabilize(0);
+        between.join(20, 0);
+        checks.same("successors of 0, between", Checks.successors(between, 0), "40 0 20");
+        checks.same("put(0, 60, 5)", between.put(0, 60, 5), 0);
+        checks.same("kept(40, 60)", between.kept(40, 60), 5);
+        checks.same("kept(20, 60)", between.kept(20, 60), 5);
         ChordOverlay alone = Checks.alone(63);
         alone.put(63, 0, 5);
         checks.same("keepers(0)", alone.keepers(0), 1);
     }
 
-    /** 10 knows 20, 20 and 30: 20 counts once, and 30 is the second. */
     private static void theSameOnce() {
-        ChordOverlay x = Checks.ring(20, 30, 40);
-        x.fail(30);
-        x.fail(40);
-        x.stabilize(20);
-        x.join(10, 20);
-        x.join(30, 20);
-        x.stabilize(10);
-        x.stabilize(20);
+        ChordOverlay x = Checks.oneTwice();
         checks.same("successors of 10", Checks.successors(x, 10), "20 20 30");
         checks.same("put(20, 8, 7)", x.put(20, 8, 7), 10);
         checks.same("kept(20, 8)", x.kept(20, 8), 7);
@@ -191,6 +193,21 @@ public final class ValuesEdgesTest {
         checks.same("replicate(32): 48 has the first, 0 none", x.replicate(32), 2);
         checks.same("replicate(32) again", x.replicate(32), 0);
         told(x, 20, 5, -1, -1, -1, 5, 5);
+    }
+
+    /** 0 and 32 have lost each other; each finds itself. By way of 8 the last put comes to 32. */
+    private static void sameValueAfterAnother() {
+        ChordOverlay x = Checks.ring(0, 8, 16, 24, 32, 40, 48, 56);
+        for (int node : new int[] {8, 16, 24, 40, 48, 56}) {
+            x.fail(node);
+        }
+        checks.same("put(0, 5, 1)", x.put(0, 5, 1), 0);
+        checks.same("put(32, 5, 2)", x.put(32, 5, 2), 32);
+        checks.same("put(0, 5, 1) again", x.put(0, 5, 1), 0);
+        x.join(8, 32);
+        checks.same("replicate(0), to 8", x.replicate(0), 1);
+        x.leave(8);
+        checks.same("kept(32, 5)", x.kept(32, 5), 1);
     }
 
     private static void noValueYet() {
@@ -303,6 +320,10 @@ public final class ValuesEdgesTest {
         checks.same("kept(24, 20)", x.kept(24, 20), 5);
         checks.same("get(24, 20)", x.get(24, 20), -1);
         checks.same("get(20, 20)", x.get(20, 20), -1);
+        ChordOverlay unknown = Checks.joined(10, 40);
+        unknown.put(10, 20, 1);
+        checks.same("owner(20)", unknown.owner(20), 40);
+        checks.same("get(40, 20), found at 10", unknown.get(40, 20), 1);
     }
 
     private static void keptOrNone() {

@@ -69,15 +69,7 @@ public final class ValuesTest {
 
     /** 10 knows 20, 20 and 30: the two that get copies are 20 and 30. */
     private static void putCountsTheSameSuccessorOnce() {
-        ChordOverlay x = Checks.ring(20, 30, 40);
-        x.fail(30);
-        x.fail(40);
-        x.stabilize(20);
-        checks.same("successors of 20 alone", Checks.successors(x, 20), "20 30 40");
-        x.join(10, 20);
-        x.join(30, 20);
-        x.stabilize(10);
-        x.stabilize(20);
+        ChordOverlay x = Checks.oneTwice();
         checks.same("successors of 10", Checks.successors(x, 10), "20 20 30");
         checks.same("put(20, 8, 7)", x.put(20, 8, 7), 10);
         checks.same("kept(20, 8)", x.kept(20, 8), 7);
